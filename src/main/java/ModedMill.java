@@ -37,10 +37,10 @@ public final class ModedMill {
     public ModedMill() {
         store = new Terms();
         program = new Program();
-        machine = new Machine(store);
-        breadth = new Breadth(program, store);
         last = new Report();
         spare = new Report();
+        machine = new Machine(store, spare);
+        breadth = new Breadth(program, store);
         isCompiled = false;
         asked = 0;
         stepSum = 0;
@@ -261,7 +261,7 @@ public final class ModedMill {
         }
         refuseUncompiled();
         spare.begin(question, first, second, third);
-        if (!question.good || !machine.run(spare)) {
+        if (!question.good || !machine.run(question, spare)) {
             throw new UnsupportedOperationException();
         }
         Report forgotten = last;
@@ -705,6 +705,7 @@ public final class ModedMill {
         private final ArrayList<Goal> goals;
         private final int[] lengths;
         private final int[] numbers;
+        private final Goal[] ordered;
         private final Mode[] chosen;
         private final int[] known;
 
@@ -718,6 +719,7 @@ public final class ModedMill {
             goals = new ArrayList<>();
             lengths = new int[MODES];
             numbers = new int[MODES * GOALS];
+            ordered = new Goal[MODES * GOALS];
             chosen = new Mode[MODES * GOALS];
             known = new int[MODES * GOALS];
         }
@@ -759,11 +761,6 @@ public final class ModedMill {
             return goals.size() - 1;
         }
 
-        /** Where a place of an order is kept, or NONE if the order has no such place. */
-        private int slot(int mode, int place) {
-            return place >= 0 && place < placeCount(mode) && place < GOALS ? mode * GOALS + place : NONE;
-        }
-
         int placeCount(int mode) {
             return mode >= 0 && mode < lengths.length ? lengths[mode] : 0;
         }
@@ -776,14 +773,25 @@ public final class ModedMill {
 
         /** Puts a goal at the end of an order, with what has values when it is taken. */
         void takeNext(int mode, int goal, Mode chosenMode, int knownSet) {
-            int slot = mode * GOALS + placeCount(mode);
-            boolean isOrder = mode >= 0 && mode < lengths.length && placeCount(mode) < GOALS;
-            if (isOrder && slot >= 0 && slot < numbers.length && slot < chosen.length && slot < known.length) {
-                lengths[mode]++;
+            int place = placeCount(mode);
+            if (mode < 0 || mode >= lengths.length || place >= GOALS) {
+                return;
+            }
+            lengths[mode] = place + 1;
+            int slot = slot(mode, place);
+            if (slot >= 0 && slot < numbers.length && slot < ordered.length && slot < chosen.length
+                    && slot < known.length) {
                 numbers[slot] = goal;
+                ordered[slot] = goalNumbered(goal);
                 chosen[slot] = chosenMode;
                 known[slot] = knownSet;
             }
+        }
+
+        /** Where a place of an order is kept, or NONE if the order has no such place. */
+        private int slot(int mode, int place) {
+            boolean isOrder = mode >= 0 && mode < lengths.length;
+            return isOrder && place >= 0 && place < GOALS && place < lengths[mode] ? mode * GOALS + place : NONE;
         }
 
         int goalNumberIn(int mode, int place) {
@@ -792,7 +800,8 @@ public final class ModedMill {
         }
 
         Goal goalIn(int mode, int place) {
-            return goalNumbered(goalNumberIn(mode, place));
+            int slot = slot(mode, place);
+            return slot >= 0 && slot < ordered.length ? ordered[slot] : null;
         }
 
         /** The mode that is chosen for the call at a place, or null if there is none. */
@@ -1335,8 +1344,9 @@ public final class ModedMill {
         private Frame outerDenied;
         private int choicesBefore;
 
-        Frame(int number) {
+        Frame(int number, Mode mode) {
             this.number = number;
+            this.mode = mode;
             values = new int[VARIABLES];
         }
 
@@ -1385,17 +1395,18 @@ public final class ModedMill {
         private boolean isOver;
         private boolean isFull;
 
-        Machine(Terms store) {
+        Machine(Terms store, Report report) {
             this.store = store;
+            this.report = report;
             frames = new ArrayList<>();
             choices = new Table(3, DEPTH);
             trail = new Table(2, DEPTH);
         }
 
         /** Answers a question; false if there are not enough numbers for its terms. */
-        boolean run(Report sheet) {
+        boolean run(Mode question, Report sheet) {
             int termsBefore = store.termCount();
-            begin(sheet);
+            begin(question, sheet);
             for (int turn = 0; turn < MANY && !isOver; turn++) {
                 Frame frame = current;
                 if (isFailing || frame == null || frame.clause == null) {
@@ -1412,7 +1423,7 @@ public final class ModedMill {
             return !isFull;
         }
 
-        private void begin(Report sheet) {
+        private void begin(Mode asked, Report sheet) {
             report = sheet;
             choices.cut(0);
             trail.cut(0);
@@ -1423,7 +1434,7 @@ public final class ModedMill {
             isFailing = false;
             isOver = false;
             isFull = false;
-            Frame question = newFrame(sheet.mode, null);
+            Frame question = newFrame(asked, null);
             for (int argument = 0; argument < ARGUMENTS; argument++) {
                 question.setValue(argument, sheet.inputAt(argument));
             }
@@ -1433,7 +1444,7 @@ public final class ModedMill {
         private Frame newFrame(Mode called, Frame from) {
             if (used < 0 || used >= frames.size()) {
                 used = frames.size();
-                frames.add(new Frame(used));
+                frames.add(new Frame(used, called));
             }
             Frame frame = frames.get(used);
             used++;
@@ -1672,10 +1683,14 @@ public final class ModedMill {
         private static final int WAITING = 2;
         private static final int REST = 3;
 
-        private static final int UNSEEN = NONE;
+        private static final int NODE = 0;
+        private static final int PART = 1;
+        private static final int SIGN = 2;
+
         private static final int UNDERWAY = 0;
         private static final int GROUND = 1;
         private static final int UNKNOWN = 2;
+        private static final int SIGNS = 3;
 
         private static final int QUESTIONS = CLAUSES * GOALS;
 
@@ -1698,6 +1713,10 @@ public final class ModedMill {
         private final Table levels;
         private final Table work;
         private int taken;
+        /** The list whose bindings stand in the nodes. */
+        private int restored;
+        /** Marks of earlier rounds count as none. */
+        private int round;
 
         Breadth(Program program, Terms store) {
             this.program = program;
@@ -1709,12 +1728,15 @@ public final class ModedMill {
             row = new Table(6, 64);
             bindings = new Table(2, 64);
             levels = new Table(4, 8);
-            work = new Table(2, 64);
+            work = new Table(3, 64);
         }
 
         /** The number of answers of a question, or NONE if it cannot be answered by breadth. */
         int count(Report report) {
-            begin(report);
+            if (report.mode == null) {
+                return NONE;
+            }
+            begin(report.mode.predicate, report);
             int answers = 0;
             for (int turn = 0; turn < MANY; turn++) {
                 if (front >= row.count()) {
@@ -1738,7 +1760,7 @@ public final class ModedMill {
             return NONE;
         }
 
-        private void begin(Report report) {
+        private void begin(Predicate asked, Report report) {
             nodes.cut(0);
             variables.cut(0);
             cells.cut(0);
@@ -1748,15 +1770,17 @@ public final class ModedMill {
             levels.cut(0);
             front = 0;
             taken = 0;
+            restored = NONE;
+            round = 0;
             for (int term = 0; term < store.termCount(); term++) {
                 nodes.add(store.headOf(term), store.part(term, 0), store.part(term, 1));
             }
             groundCount = nodes.count();
-            for (int place = 0; place < report.mode.predicate.arity(); place++) {
+            for (int place = 0; place < asked.arity(); place++) {
                 int given = report.inputAt(place);
                 variables.add(given != NONE ? given : newUnknown(), NONE, NONE);
             }
-            putQuestion(report.mode.predicate.number, 0, NONE);
+            putQuestion(asked.number, 0, NONE);
         }
 
         private int newUnknown() {
@@ -1813,8 +1837,13 @@ public final class ModedMill {
         private int openClause(Clause clause, Goal call, int callBase, int rest) {
             int base = variables.count();
             for (int variable = 0; variable < VARIABLES; variable++) {
-                boolean isArgument = variable < call.count;
-                variables.add(isArgument ? nodeOf(call, callBase, variable) : newUnknown(), NONE, NONE);
+                int node = NONE;
+                if (variable < call.count) {
+                    node = nodeOf(call, callBase, variable);
+                } else if (clause.typeAt(variable) != NONE) {
+                    node = newUnknown();
+                }
+                variables.add(node, NONE, NONE);
             }
             int cell = rest;
             for (int goal = clause.goalCount() - 1; goal >= 0; goal--) {
@@ -1842,11 +1871,19 @@ public final class ModedMill {
             } else {
                 int from = bindings.count();
                 int left = nodeOf(goal, base, 0);
-                if (unify(left, rightSide(goal, base)) && isFinite(left)) {
+                boolean isEqual = unify(left, rightSide(goal, base)) && isFinite(left);
+                bind(from, bindings.count(), false);
+                if (isEqual) {
                     addToRow(list, from, bindings.count(), rest, NONE);
                 } else {
                     bindings.cut(from);
                 }
+            }
+        }
+
+        private void bind(int from, int to, boolean isBound) {
+            for (int line = from; line < to; line++) {
+                nodes.set(bindings.get(line, 0), BOUND, isBound ? bindings.get(line, 1) : NONE);
             }
         }
 
@@ -1859,17 +1896,18 @@ public final class ModedMill {
             return nodes.add(goal.subject, first, second);
         }
 
-        /** Binds just what is bound in a list; its parents hold what was bound ahead of it. */
+        /** Binds just what is bound in a list. */
         private void restore(int list) {
-            for (int node = groundCount; node < nodes.count(); node++) {
-                nodes.set(node, BOUND, NONE);
-                nodes.set(node, MARK, UNSEEN);
-            }
+            bindPath(restored, false);
+            bindPath(list, true);
+            restored = list;
+            round++;
+        }
+
+        private void bindPath(int list, boolean isBound) {
             int at = list;
             for (int looked = 0; looked < LISTS && at != NONE; looked++) {
-                for (int line = lists.get(at, FROM); line < lists.get(at, TO); line++) {
-                    nodes.set(bindings.get(line, 0), BOUND, bindings.get(line, 1));
-                }
+                bind(lists.get(at, FROM), lists.get(at, TO), isBound);
                 at = lists.get(at, PARENT);
             }
         }
@@ -1975,63 +2013,59 @@ public final class ModedMill {
         private boolean isGround(Goal goal, int base) {
             for (int place = 0; place < goal.count; place++) {
                 int node = find(nodeOf(goal, base, place));
-                scan(node);
-                if (nodes.get(node, MARK) != GROUND) {
+                if (markOf(node) == NONE) {
+                    scan(node);
+                }
+                if (markOf(node) != GROUND) {
                     return false;
                 }
             }
             return true;
         }
 
-        /** Whether nothing in a node contains itself; what was joined lately must be in it. */
+        /** Whether nothing in a node contains itself; all that was joined lately is in it. */
         private boolean isFinite(int node) {
-            for (int other = groundCount; other < nodes.count(); other++) {
-                nodes.set(other, MARK, UNSEEN);
-            }
+            round++;
             return scan(find(node));
+        }
+
+        private int markOf(int node) {
+            int mark = nodes.get(node, MARK) - SIGNS * round;
+            return node < groundCount ? GROUND : Math.max(mark, NONE);
+        }
+
+        private void setMark(int node, int mark) {
+            nodes.set(node, MARK, SIGNS * round + mark);
         }
 
         /** Marks all that is in a node as ground or not; false if something there contains itself. */
         private boolean scan(int start) {
             work.cut(0);
-            look(start);
+            work.add(start, 0, GROUND);
             for (int turn = 0; turn < MANY && work.count() > 0; turn++) {
                 int line = work.count() - 1;
-                int node = work.get(line, 0);
-                int part = work.get(line, 1);
-                if (part < store.partCount(nodes.get(node, HEAD))) {
-                    work.set(line, 1, part + 1);
-                    int child = find(nodes.get(node, part == 0 ? FIRST : SECOND));
-                    if (nodes.get(child, MARK) == UNDERWAY) {
-                        return false;
-                    }
-                    look(child);
-                } else {
-                    nodes.set(node, MARK, hasUnknown(node) ? UNKNOWN : GROUND);
+                int node = work.get(line, NODE);
+                int part = work.get(line, PART);
+                int head = nodes.get(node, HEAD);
+                if (part >= store.partCount(head)) {
+                    setMark(node, head == NONE ? UNKNOWN : work.get(line, SIGN));
                     work.cut(line);
+                    continue;
+                }
+                setMark(node, UNDERWAY);
+                int child = find(nodes.get(node, part == 0 ? FIRST : SECOND));
+                int mark = markOf(child);
+                if (mark == UNDERWAY) {
+                    return false;
+                }
+                if (mark == NONE) {
+                    work.add(child, 0, GROUND);
+                } else {
+                    work.set(line, PART, part + 1);
+                    work.set(line, SIGN, Math.max(mark, work.get(line, SIGN)));
                 }
             }
             return true;
-        }
-
-        private void look(int node) {
-            if (nodes.get(node, MARK) == UNSEEN) {
-                nodes.set(node, MARK, node < groundCount ? GROUND : UNDERWAY);
-                if (node >= groundCount) {
-                    work.add(node, 0, NONE);
-                }
-            }
-        }
-
-        /** Whether an unknown is in a node whose parts are marked. */
-        private boolean hasUnknown(int node) {
-            int head = nodes.get(node, HEAD);
-            boolean isUnknown = head == NONE;
-            for (int part = 0; part < store.partCount(head); part++) {
-                int child = find(nodes.get(node, part == 0 ? FIRST : SECOND));
-                isUnknown = isUnknown || nodes.get(child, MARK) == UNKNOWN;
-            }
-            return isUnknown;
         }
     }
 }
