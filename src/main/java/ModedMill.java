@@ -507,6 +507,7 @@ public final class ModedMill {
 
     /** Types, constructors, and the terms that have numbers. */
     private static final class Terms {
+        // The columns of constructors, and of the numbered terms.
         private static final int TYPE = 0;
         private static final int FIRST = 1;
         private static final int SECOND = 2;
@@ -1375,6 +1376,7 @@ public final class ModedMill {
 
     /** The machine with choice points and a trail. */
     private static final class Machine {
+        // The columns of choices, and of the trail.
         private static final int FRAME = 0;
         private static final int CLAUSE = 1;
         private static final int TRAIL = 2;
@@ -1661,16 +1663,19 @@ public final class ModedMill {
 
     /** Questions by breadth: lists of goals, each with what is known of the unknowns since the list ahead of it. */
     private static final class Breadth {
+        // The columns of nodes.
         private static final int HEAD = 0;
         private static final int FIRST = 1;
         private static final int SECOND = 2;
         private static final int BOUND = 3;
         private static final int MARK = 4;
 
+        // The columns of cells.
         private static final int GOAL = 0;
         private static final int BASE = 1;
         private static final int NEXT = 2;
 
+        // The columns of lists and, with the last two, of the row.
         private static final int PARENT = 0;
         private static final int FROM = 1;
         private static final int TO = 2;
@@ -1678,20 +1683,22 @@ public final class ModedMill {
         private static final int CALL = 4;
         private static final int CLAUSE = 5;
 
+        // The columns of levels.
         private static final int ROW_FRONT = 0;
         private static final int ROW_END = 1;
         private static final int WAITING = 2;
         private static final int REST = 3;
 
+        // The columns of work, when nodes are marked, and the marks.
         private static final int NODE = 0;
         private static final int PART = 1;
         private static final int SIGN = 2;
-
         private static final int UNDERWAY = 0;
         private static final int GROUND = 1;
         private static final int UNKNOWN = 2;
         private static final int SIGNS = 3;
 
+        /** Behind the goals of all clauses: the question of a predicate, as a goal. */
         private static final int QUESTIONS = CLAUSES * GOALS;
 
         private final Program program;
@@ -1701,13 +1708,14 @@ public final class ModedMill {
         private int groundCount;
         /** The nodes of the variables of each clause that was opened. */
         private final Table variables;
-        /** Goals in chains, which lists have in common from their second part on. */
+        /** Goals, each with the one behind it: lists have the ends of their chains in common. */
         private final Table cells;
         /** The lists that were taken off, each with its parent and what was bound between both. */
         private final Table lists;
         /** What is in the row: a list, or for a call one list for each clause from a clause on. */
         private final Table row;
         private int front;
+        /** What was bound to what, kept for the lists that it holds in. */
         private final Table bindings;
         /** The questions that wait for a denied call of theirs. */
         private final Table levels;
