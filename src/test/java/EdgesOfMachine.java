@@ -398,6 +398,33 @@ public final class EdgesOfMachine extends Edge {
         due(2, m::answersByBreadth);
     }
 
+    @Says(promise = 0, value = "with an unknown anywhere in one of its arguments")
+    static void breadthLooksAtAllPartsOfAnArgument() {
+        // The unknown is the second part of a pair: asked at once, what is denied would have an answer.
+        ModedMill m = pairs();
+        predicate(m, 0, -1, -1, "0n");
+        predicate(m, 0, -1, -1, "1n");
+        clause(m, 0, "build 3 0", "build 4 2 3 5", "deny 1 4", "build 5 1 3", "build 0 0");
+        clause(m, 0, "build 3 0", "build 4 2 5 3", "deny 1 4", "build 5 1 3", "build 0 0");
+        clause(m, 1, "build 0 2 3 4", "build 3 0", "build 4 0");
+        due(0, m::compile);
+        due(2, () -> breadth(m));
+    }
+
+    @Says(promise = 0, value = "with an unknown anywhere in one of its arguments")
+    static void breadthLooksAtArgumentsAlone() {
+        // 0 is an unknown, but no argument of what is denied, which has an answer ahead of the call without an end.
+        ModedMill m = numbers();
+        predicate(m, 0, -1, -1, "0n");
+        predicate(m, 0, -1, -1, "1n");
+        predicate(m, -1, -1, -1, "0n");
+        clause(m, 0, "build 3 0", "deny 1 3", "call 2", "build 0 0");
+        clause(m, 1);
+        clause(m, 2, "call 2");
+        due(0, m::compile);
+        due(0, () -> breadth(m));
+    }
+
     @Says(promise = 0, value = "without regard to modes and orders")
     static void breadthKnowsNoOrders() {
         // The machine calls 1, which has no end, at first; by breadth 3 would contain itself at first.
@@ -435,6 +462,19 @@ public final class EdgesOfMachine extends Edge {
         due(1, () -> breadth(m, twin, pair, 0));
         due(0, () -> breadth(m, pair, back, 0));
         due(0, () -> breadth(m, 0, pair, 0));
+    }
+
+    @Says(promise = 0, value = "a build or a same makes both sides equal")
+    static void whatCannotBeMadeEqualLeavesNothingBehind() {
+        // Of the first clause of 1 one pair of parts is unlike, and the other one is not looked at any more.
+        ModedMill m = pairs();
+        predicate(m, -1, -1, -1, "0n");
+        predicate(m, 0, 0, -1, "3n");
+        clause(m, 0, "build 3 0", "build 4 1 3", "call 1 3 4");
+        clause(m, 1, "build 3 2 0 0", "build 3 2 1 1");
+        clause(m, 1, "same 0 0", "same 0 0");
+        due(0, m::compile);
+        due(1, () -> breadth(m));
     }
 
     @Says(promise = 0, value = "giving unknowns the least that is needed for it")
@@ -717,6 +757,33 @@ public final class EdgesOfMachine extends Edge {
             due(old, () -> m.term(1, old - 1, 0));
         }
         due(2, m::open);
+    }
+
+    @Says(promise = 0, value = "A method that throws an exception changes nothing")
+    static void aRefusedFirstQuestionTakesAllBack() {
+        // 3 makes 5 terms, 2 makes 25, 1 makes 125: 0 would make 251 of them, beginning with the very first term.
+        ModedMill m = numbers();
+        predicate(m, -1, -1, -1, "0n");
+        for (int p = 1; p < 4; p++) predicate(m, 0, 0, -1, "1n");
+        clause(m, 0, "build 3 0", "call 1 3 4", "call 1 4 5");
+        for (int p = 1; p < 3; p++) {
+            int next = p + 1;
+            clause(m, p, "call " + next + " 0 3", "call " + next + " 3 4", "call " + next + " 4 5",
+                    "call " + next + " 5 6", "call " + next + " 6 1");
+        }
+        clause(m, 3, "build 3 1 0", "build 4 1 3", "build 5 1 4", "build 6 1 5", "build 1 1 6");
+        m.compile();
+        due(UN, () -> m.ask(0, 0, 0, 0, 0));
+        due(0, m::terms);
+        due(IO, () -> m.constructorOf(0));
+        due(NS, m::ending);
+        due(AR, m::meanSteps);
+        due(0, () -> m.term(0, 0, 0));
+        due(1, () -> m.term(1, 0, 0));
+        due(1, () -> m.ask(1, 0, 0, 0, 0));
+        due("0,125", () -> answers(m, 2));
+        due(126, m::terms);
+        due(1, m::open);
     }
 
     @Says(promise = 0, value = "A method that throws an exception changes nothing")

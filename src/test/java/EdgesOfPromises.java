@@ -1591,6 +1591,16 @@ public final class EdgesOfPromises extends Edge {
     }
 
     @Says(promise = 26, value = "Returns how many answers the last question has by breadth")
+    static void aBreadthThatWasGivenUpIsForgotten() {
+        // It was given up in a denied call, in another one.
+        ModedMill m = bare(4, "0-1", "1-2", "22", "3", "3");
+        due(0, () -> m.ask(0, 0, 0, 0, 0));
+        due(UN, m::answersByBreadth);
+        due(2, () -> m.ask(3, 0, 0, 0, 0));
+        due(2, m::answersByBreadth);
+    }
+
+    @Says(promise = 26, value = "Returns how many answers the last question has by breadth")
     static void breadthHasNoLimitOfFiftyAnswers() {
         ModedMill m = bare(2, with(FIFTY, "0", "011"));
         due(50, () -> m.ask(0, 0, 0, 0, 0));
